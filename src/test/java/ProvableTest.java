@@ -1,0 +1,156 @@
+/** Promises 21 to 24: cycleIn, backIn, gramIn, digest. */
+public final class ProvableTest {
+    private static final String INDEX = "IndexOutOfBoundsException";
+    private static final String ARGUMENT = "IllegalArgumentException";
+
+    private final Checks checks = new Checks("ProvableTest");
+
+    public static void main(String[] args) {
+        ProvableTest test = new ProvableTest();
+        test.cycleIn();
+        test.cycleInRefuses();
+        test.backIn();
+        test.gramIn();
+        test.nothingIsChanged();
+        test.digestOfNothing();
+        test.digestNumberByNumber();
+        test.digestTellsApart();
+        test.checks.end();
+    }
+
+    private void cycles(String table, int bound, int due) {
+        checks.is(table + ": cycleIn(0, " + bound + ")", due, () -> Tables.of(table).cycleIn(0, bound));
+    }
+
+    private void cycleIn() {
+        cycles("1RA ---  --- ---", 1, 1);
+        cycles("1RA ---  --- ---", 40, 1);
+        cycles("1LA ---  --- ---", 1, 1);
+        cycles("0RB ---  0LA ---", 1, -1);
+        cycles("0RB ---  0LA ---", 2, 2);
+        cycles("1RB 1RB  1LA 1LA", 3, -1);
+        cycles("1RB 1RB  1LA 1LA", 4, 402);
+        cycles("1LB 1LA  1LC 1RD  1RB 1RC  1LA 0RB", 39, -1);
+        cycles("1LB 1LA  1LC 1RD  1RB 1RC  1LA 0RB", 40, 5214);
+        cycles("1RB 1LB  1LA 1RZ", 40, -1);
+        cycles("1RB ---  --- ---", 40, -1);
+        cycles("--- ---  --- ---", 1, -1);
+        // Of 0 and 4, 1 and 3, 2 and 2 all of the same sum the first that is taken has the smallest a.
+        cycles("1RB ---  1RC ---  1RB ---", 40, 202);
+    }
+
+    private void cycleInRefuses() {
+        Haltingale x = Tables.of("1RA ---  --- ---");
+        for (int bound : new int[] {0, 41, -1, Integer.MAX_VALUE, Integer.MIN_VALUE}) {
+            checks.refuses(x, ARGUMENT, "cycleIn(0, " + bound + ")", () -> x.cycleIn(0, bound));
+        }
+        checks.refuses(x, INDEX, "cycleIn(1, 1)", () -> x.cycleIn(1, 1));
+        checks.refuses(x, INDEX, "cycleIn(-1, 1)", () -> x.cycleIn(-1, 1));
+        checks.refuses(x, INDEX, "no machine goes ahead of no bound", () -> x.cycleIn(1, 0));
+    }
+
+    private void backs(String table, int due) {
+        checks.is(table + ": backIn(0)", due, () -> Tables.of(table).backIn(0));
+    }
+
+    private void backIn() {
+        backs("0RB 1LA  1LA 1RB", 1);
+        backs("1RB 1LA  1LA 1RB  0RD 0LA  0RZ 0LA", 2);
+        backs("1RC 1LA  0LD 1RZ  1LD 1RC  0RB 1LA", 3);
+        backs("1LC 1RA  0LD 1LA  1RA 0RB  0RZ 1RC", 4);
+        backs("1LB 0LZ  0LC 1RA  1RB 0RA", 5);
+        backs("1LA 1RB  1RC 0RC  0RZ 1LA", 6);
+        backs("0RB 1LD  0LA 0LA  0LA 0LA  --- ---", 3);
+        backs("1RB 1LZ  1LC 1RB  1LA 1LC", -1);
+        backs("1RB 1LB  1LA 1RZ", -1);
+        // No ROW at the depth 1, but it STOPS with its STEP 1, or HANGS ahead of it.
+        backs("1RZ 1LB  1RB 1RB", -1);
+        backs("--- 1LB  1RB 1RB", -1);
+        backs("--- ---  --- ---", -1);
+        Haltingale x = Tables.of("1RA ---  --- ---");
+        checks.refuses(x, INDEX, "backIn(1)", () -> x.backIn(1));
+        checks.refuses(x, INDEX, "backIn(-1)", () -> x.backIn(-1));
+    }
+
+    private void grams(String table, int due) {
+        checks.is(table + ": gramIn(0)", due, () -> Tables.of(table).gramIn(0));
+    }
+
+    private void gramIn() {
+        grams("1RA ---  --- ---", 1);
+        grams("0LB 0RA  1RA 1LB  --- 0RC", 1);
+        grams("1RB 1LZ  1LC 1RB  1LA 1LC", 2);
+        grams("1LB 1RZ  1RC 1LB  1RA 1RC", 2);
+        grams("1RC 0LB  1LA 0LZ  1LA 0RA", 3);
+        grams("1LC 0RB  1RA 0RZ  1RA 0LA", 3);
+        grams("1RB 1LB  --- 0LC  0LB 1LA", -1);
+        grams("1RB 1LB  1LA 1RZ", -1);
+        grams("--- ---  --- ---", -1);
+        Haltingale x = Tables.of("1RA ---  --- ---");
+        checks.refuses(x, INDEX, "gramIn(1)", () -> x.gramIn(1));
+        checks.refuses(x, INDEX, "gramIn(-1)", () -> x.gramIn(-1));
+    }
+
+    private void nothingIsChanged() {
+        Haltingale x = Tables.of("1LA 1RB  1RC 0RC  0RZ 1LA");
+        long before = x.digest();
+        checks.is("cycleIn of an OPEN machine", 1, () -> x.cycleIn(0, 40));
+        checks.is("backIn of an OPEN machine", 6, () -> x.backIn(0));
+        checks.is("gramIn of an OPEN machine", 1, () -> x.gramIn(0));
+        checks.is("digest() then", before, () -> x.digest());
+        x.prove(0, 2, 6, 0);
+        long decided = x.digest();
+        checks.is("cycleIn of a DECIDED machine", 1, () -> x.cycleIn(0, 40));
+        checks.is("backIn of a DECIDED machine", 6, () -> x.backIn(0));
+        checks.is("gramIn of a DECIDED machine", 1, () -> x.gramIn(0));
+        checks.is("digest() then, too", decided, () -> x.digest());
+    }
+
+    private void digestOfNothing() {
+        long d = 58237;
+        for (int what = 0; what <= 10; what++) {
+            d = d * 31;
+        }
+        d = (d * 31 - 1) * 31 - 1;
+        long due = d;
+        checks.is("digest of a new object", due, () -> new Haltingale().digest());
+        checks.is("digest of a new object again", due, () -> new Haltingale().digest());
+    }
+
+    private void digestNumberByNumber() {
+        Haltingale x = Tables.of("1RB 1LB  1LA 1RZ", "0RB ---  0LA ---");
+        x.prove(0, 0, 5, 0);
+        x.prove(0, 0, 6, 0);
+        x.tag(2, 11, 6);
+        int[] numbers = {
+            2, 1, 1, 0, 0, 0, 1, 2, 1, 0, 2,
+            2, 0, 0, 6, 0, 0, 4, 6, 0,
+            1, 1, 1, 1, 0, 1, 1, 0, 0, 1, 1, 2,
+            6, 2, 0, 4, 1, -2, 1, 8,
+            -1, -1,
+            2, 2, -1, -1, -1, 0, -1, -1, -1,
+            0, 1, 1, -1, -1, -1, 0, 0, 0, -1, -1, -1,
+            40, 0, 0, 0, 1, 0, 1, 0,
+            2, 2,
+            // 010 0011 11011 01110 110011 001110 1110011 1001110 0111010 11010011, and a 1 ahead of that.
+            0b1_11010011,
+            0, 0};
+        long d = 58237;
+        for (int v : numbers) {
+            d = d * 31 + v;
+        }
+        long due = d;
+        checks.is("digest", due, () -> x.digest());
+    }
+
+    private void digestTellsApart() {
+        Haltingale x = Tables.of("1RB 1LB  1LA 1RZ");
+        long before = x.digest();
+        x.decide(0);
+        long decided = x.digest();
+        checks.is("it is another one, decided", false, () -> decided == before);
+        x.doubt(0);
+        checks.is("it is another one, doubted", false, () -> x.digest() == before);
+        checks.is("it is the same, asked again", x.digest(), () -> x.digest());
+    }
+}
