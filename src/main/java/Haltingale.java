@@ -521,11 +521,15 @@ public final class Haltingale {
             case CYCLE:
                 return cycles.isCycle(found, a, b);
             case BACK:
-                int depth = back.emptyDepth(found);
-                return depth != NONE && depth <= a && goesOnFor(found, a);
+                return isBack(found, a);
             default:
                 return gram.isClosed(found, a);
         }
+    }
+
+    private boolean isBack(Machine found, int a) {
+        int depth = back.emptyDepth(found);
+        return depth != NONE && depth <= a && goesOnFor(found, a);
     }
 
     private int smallestBack(Machine found) {

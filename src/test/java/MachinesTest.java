@@ -149,7 +149,9 @@ public final class MachinesTest {
                 checks.is("the CELL of the way " + way + ", " + what, due[way][what], () -> x.cell(number, 1, 0, part));
             }
             checks.is("the rest is the same: EMPTY", 5, () -> x.ofMachine(number, 1));
-            checks.is("the rest is the same: MOVE", 0, () -> x.cell(number, 1, 1, 1));
+            checks.is("the rest is the same: MOVE to the right", 1, () -> x.cell(number, 0, 0, 1));
+            checks.is("the rest is the same: MOVE to the left", 0, () -> x.cell(number, 1, 1, 1));
+            checks.is("it does a STEP more, and where to", due[way][1] == 1 ? 2 : 0, () -> x.at(number, 2, 2));
             checks.is("the rest is the same: NEXT", 4, () -> x.cell(number, 1, 1, 2));
             checks.is("a CHILD is OPEN", -1, () -> x.ofMachine(number, 2));
         }

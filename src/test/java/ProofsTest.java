@@ -95,6 +95,8 @@ public final class ProofsTest {
         // It HANGS, or STOPS, ahead of so many STEPS.
         takes("0RB ---  --- ---", 1, 0, 2, false);
         takes("0RB ---  0LZ ---", 1, 0, 2, false);
+        takes("0RB ---  --- ---", 1, 5, 1, false);
+        takes("0RB ---  0LZ ---", 1, 2, 1, false);
         takes("0RZ ---  0LA ---", 1, 1, 1, false);
     }
 
@@ -215,7 +217,9 @@ public final class ProofsTest {
         // CYCLE goes ahead of BACK and GRAM, that could be taken, too.
         decided("0RB ---  0LA ---", 1, 0, 2);
         decided("1LB 0LZ  0LC 1RA  1RB 0RA", 1, 0, 5);
-        // A CYCLE with a sum of 40 is beyond the bound of 30: BACK is next.
+        // A CYCLE with a sum of 30 is within the bound; with 31 or 40 it is beyond, and BACK is next.
+        decided("1LC 0LC  1LD 0RC  1RB 0LD  0RD 1LA", 1, 29, 1);
+        decided("1LC 0RC  0LC 1RD  0LD 1LD  1RB 1LC", 2, 1, 0);
         decided("1LB 1LA  1LC 1RD  1RB 1RC  1LA 0RB", 2, 1, 0);
         // BACK goes ahead of GRAM.
         decided("1RC 1LA  0LD 1RZ  1LD 1RC  0RB 1LA", 2, 3, 0);

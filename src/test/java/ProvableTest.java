@@ -14,6 +14,7 @@ public final class ProvableTest {
         test.nothingIsChanged();
         test.digestOfNothing();
         test.digestNumberByNumber();
+        test.digestOfWhatIsAsked();
         test.digestTellsApart();
         test.checks.end();
     }
@@ -141,6 +142,48 @@ public final class ProvableTest {
         }
         long due = d;
         checks.is("digest", due, () -> x.digest());
+    }
+
+    /** The same from the answers of the other methods, of an object for which most of these are not alike. */
+    private void digestOfWhatIsAsked() {
+        // The sums of CYCLE are 8 and 9; the champions are the machines 3 and 2; a row that is too long.
+        Haltingale x = Tables.of("0RB 0LA  1RC 0RZ  1RD 1LD  0LC 1RA", "1RD 1LZ  0LC 1LC  0RA 1LA  1LC 0RC",
+                "1RB 1RZ  1LB 0RC  1LC 1LA", "1RB 1RZ  0RC 1RB  1LC 1LA", "1RB ---  --- 0LC  --- ---",
+                "1RB 1LA  1LA 1RB  0RD 0LA  0RZ 0LA", "1RB 1LZ  1LC 1RB  1LA 1LC");
+        for (int machine = 2; machine <= 6; machine++) {
+            x.decide(machine);
+        }
+        x.prove(0, 3, 1, 0);
+        x.tag(2, 11, 6);
+        x.tag(1, 63, 63);
+        checks.is("cycleIn(0, 8)", 8, () -> x.cycleIn(0, 8));
+        checks.is("cycleIn(1, 8)", -1, () -> x.cycleIn(1, 8));
+        checks.is("cycleIn(1, 9)", 9, () -> x.cycleIn(1, 9));
+        checks.is("champion(0)", 3, () -> x.champion(0));
+        checks.is("champion(1)", 2, () -> x.champion(1));
+        long d = 58237;
+        for (int what = 0; what <= 10; what++) {
+            d = d * 31 + x.many(what);
+        }
+        for (int machine = 0; machine < 7; machine++) {
+            for (int what = 0; what <= 8; what++) {
+                d = d * 31 + x.ofMachine(machine, what);
+            }
+            for (int i = 0; i < 6 * x.ofMachine(machine, 0); i++) {
+                d = d * 31 + x.cell(machine, i / 6, i / 3 % 2, i % 3);
+            }
+            for (int what = 0; what <= 7; what++) {
+                d = d * 31 + x.at(machine, 40, what);
+            }
+            d = d * 31 + x.cycleIn(machine, 8);
+            d = d * 31 + x.backIn(machine);
+        }
+        for (int tag = 0; tag < 2; tag++) {
+            d = d * 31 + x.tagged(tag, 10, 9);
+        }
+        d = (d * 31 + x.champion(0)) * 31 + x.champion(1);
+        long due = d;
+        checks.is("digest of what is asked", due, () -> x.digest());
     }
 
     private void digestTellsApart() {
