@@ -17,6 +17,8 @@ public final class AskedTest {
         test.likeness();
         test.champion();
         test.tagged();
+        test.taggedByCut();
+        test.taggedSoOften();
         test.taggedTooLong();
         test.many();
         test.meanStop();
@@ -30,16 +32,16 @@ public final class AskedTest {
             int asked = i;
             checks.is("cell " + i, due[i], () -> x.cell(0, asked / 6, asked / 3 % 2, asked % 3));
         }
-        checks.noSuch("cell of machine 1", () -> x.cell(1, 0, 0, 0));
-        checks.noSuch("cell of machine -1", () -> x.cell(-1, 0, 0, 0));
-        checks.noSuch("cell of STATE 2 of 2", () -> x.cell(0, 2, 0, 0));
-        checks.noSuch("cell of STATE -1", () -> x.cell(0, -1, 0, 0));
-        checks.noSuch("cell of SYMBOL 2", () -> x.cell(0, 0, 2, 0));
-        checks.noSuch("cell of SYMBOL -1", () -> x.cell(0, 1, -1, 0));
-        checks.badArgument("cell what 3", () -> x.cell(0, 0, 0, 3));
-        checks.badArgument("cell what -1", () -> x.cell(0, 0, 0, -1));
-        checks.badArgument("cell what 3, EMPTY", () -> x.cell(0, 1, 0, 3));
-        checks.noSuch("no STATE goes ahead of no what", () -> x.cell(0, 2, 0, 3));
+        // The greatest NEXT, which is STOP, with 3 and 4 STATES, and the greatest STATE.
+        Haltingale y = Tables.of("0LA 0LZ  0LC 1RZ  --- ---", "0LA 0LZ  0LD 1RZ  --- ---  --- ---");
+        for (int states = 3; states <= 4; states++) {
+            int machine = states - 3;
+            checks.is("STATE 0 is a NEXT", 0, () -> y.cell(machine, 0, 0, 2));
+            checks.is("STOP is a NEXT", states, () -> y.cell(machine, 0, 1, 2));
+            checks.is("the last STATE is a NEXT", states - 1, () -> y.cell(machine, 1, 0, 2));
+            checks.is("a MOVE to the left", 0, () -> y.cell(machine, 1, 0, 1));
+            checks.is("a MOVE to the right", 1, () -> y.cell(machine, 1, 1, 1));
+        }
     }
 
     private void ofMachine() {
@@ -50,6 +52,8 @@ public final class AskedTest {
         all("STOPS to the right", Tables.of("0RB ---  0RZ ---"), 2, 2, -1, -1, -1, 0, 0, 2, 2);
         all("107 STEPS", Tables.of("1RB 1LB  1LA 0LC  1RZ 1LD  1RD 0RA"), 4, 0, -1, -1, -1, 0, 13, 107, 9);
         all("goes on", Tables.of("1RA ---  --- ---"), 2, 3, -1, -1, -1, 0, -1, -1, -1);
+        all("HANGS behind 106 STEPS", Tables.of("1RB 1LB  1LA 0LC  --- 1LD  1RD 0RA"), 4, 1, -1, -1, -1, 17, -1, -1, -1);
+        all("STOPS at once", Tables.of("0LZ ---  --- ---"), 2, 3, -1, -1, -1, 0, 0, 1, 1);
         Haltingale x = Tables.of(BEAVER, "1RA ---  --- ---");
         x.prove(0, 0, 6, 0);
         all("DECIDED by STOP", x, 2, 0, 0, 6, 0, 0, 4, 6, 0);
@@ -57,11 +61,6 @@ public final class AskedTest {
         checks.is("the KIND of CYCLE", 1, () -> x.ofMachine(1, 2));
         checks.is("the a of CYCLE", 3, () -> x.ofMachine(1, 3));
         checks.is("the b of CYCLE", 9, () -> x.ofMachine(1, 4));
-        checks.noSuch("ofMachine(2, 0)", () -> x.ofMachine(2, 0));
-        checks.noSuch("ofMachine(-1, 0)", () -> x.ofMachine(-1, 0));
-        checks.badArgument("ofMachine(0, 9)", () -> x.ofMachine(0, 9));
-        checks.badArgument("ofMachine(0, -1)", () -> x.ofMachine(0, -1));
-        checks.noSuch("no machine goes ahead of no what", () -> x.ofMachine(2, 9));
     }
 
     private void all(String name, Haltingale x, int... due) {
@@ -99,13 +98,6 @@ public final class AskedTest {
         stands(x, 2, 500, 1, 1, 1, 1, 2, 0, 1, 4);
         // 1 0 1 0 1 0 and the 0 at which it is: the last part has two PLACES.
         stands(x, 3, 6, 6, 0, 6, 3, 6, 0, 6, 3);
-        checks.noSuch("at(4, 0, 0)", () -> x.at(4, 0, 0));
-        checks.noSuch("at(-1, 0, 0)", () -> x.at(-1, 0, 0));
-        checks.badArgument("at(0, 501, 0)", () -> x.at(0, 501, 0));
-        checks.badArgument("at(0, -1, 0)", () -> x.at(0, -1, 0));
-        checks.badArgument("at(0, 0, 8)", () -> x.at(0, 0, 8));
-        checks.badArgument("at(0, 0, -1)", () -> x.at(0, 0, -1));
-        checks.noSuch("no machine goes ahead of too many STEPS", () -> x.at(4, 501, 8));
     }
 
     private void symbol() {
@@ -121,15 +113,6 @@ public final class AskedTest {
         checks.is("to the left, a 1", 1, () -> x.symbol(1, 500, -498));
         checks.is("to the left, a 0", 0, () -> x.symbol(1, 500, -499));
         checks.is("nothing of the other machine is left", 0, () -> x.symbol(1, 500, 5));
-        checks.noSuch("symbol of machine 2", () -> x.symbol(2, 0, 0));
-        checks.noSuch("symbol of machine -1", () -> x.symbol(-1, 0, 0));
-        checks.badArgument("symbol behind 501", () -> x.symbol(0, 501, 0));
-        checks.badArgument("symbol behind -1", () -> x.symbol(0, -1, 0));
-        checks.badArgument("symbol at 502", () -> x.symbol(0, 0, 502));
-        checks.badArgument("symbol at -502", () -> x.symbol(0, 0, -502));
-        checks.badArgument("symbol at the greatest number", () -> x.symbol(0, 0, Integer.MAX_VALUE));
-        checks.badArgument("symbol at the least number", () -> x.symbol(0, 0, Integer.MIN_VALUE));
-        checks.noSuch("no machine goes ahead of no PLACE", () -> x.symbol(2, 0, 502));
     }
 
     /** Checks how a machine leans behind 16 STEPS, and where it is then. */
@@ -160,11 +143,22 @@ public final class AskedTest {
         checks.is("without a STEP", 0.0, () -> x.lean(0, 0));
         checks.is("HANGING without a STEP", 0.0, () -> x.lean(1, 500));
         checks.is("a third is near a quarter", 0.25, () -> x.lean(2, 500));
-        checks.noSuch("lean of machine 3", () -> x.lean(3, 0));
-        checks.noSuch("lean of machine -1", () -> x.lean(-1, 0));
-        checks.badArgument("lean behind 501", () -> x.lean(0, 501));
-        checks.badArgument("lean behind -1", () -> x.lean(0, -1));
-        checks.noSuch("no machine goes ahead of too many STEPS", () -> x.lean(3, 501));
+        checks.is("behind 1 STEP to the left", -1.0, () -> x.lean(0, 1));
+        checks.is("behind 1 STEP to the right", 1.0, () -> x.lean(2, 1));
+        checks.is("HANGING behind 3 STEPS, of 3", 0.25, () -> x.lean(2, 3));
+        leansNextToHalves("0RB ---  0LA ---", 1.0);
+        leansNextToHalves("0LB ---  0RA ---", -1.0);
+    }
+
+    /** At an odd number of STEPS it is 1 PLACE away: with 7 STEPS more than half a quarter, with 9 less. */
+    private void leansNextToHalves(String table, double sign) {
+        Haltingale x = Tables.of(table);
+        double[] due = {0.0, 1.0, 0.0, 0.25, 0.0, 0.25, 0.0, 0.25, 0.0, 0.0, 0.0, 0.0};
+        for (int i = 0; i < due.length; i++) {
+            int steps = i;
+            checks.is(table + ": lean(0, " + i + ")", due[i] == 0.0 ? 0.0 : sign * due[i], () -> x.lean(0, steps));
+        }
+        checks.is(table + ": lean(0, 499)", 0.0, () -> x.lean(0, 499));
     }
 
     private void meets() {
@@ -179,15 +173,14 @@ public final class AskedTest {
         checks.is("where it HANGS", 1, () -> x.meets(1, 1, 0, 500));
         checks.is("never, as it HANGS", -1, () -> x.meets(1, 1, 1, 500));
         checks.is("never, as it goes on", -1, () -> x.meets(2, 0, 1, 500));
-        checks.noSuch("meets of machine 3", () -> x.meets(3, 0, 0, 0));
-        checks.noSuch("meets of machine -1", () -> x.meets(-1, 0, 0, 0));
-        checks.noSuch("meets of STOP", () -> x.meets(0, 2, 0, 0));
-        checks.noSuch("meets of STATE -1", () -> x.meets(0, -1, 0, 0));
-        checks.noSuch("meets of SYMBOL 2", () -> x.meets(0, 0, 2, 0));
-        checks.noSuch("meets of SYMBOL -1", () -> x.meets(0, 1, -1, 0));
-        checks.badArgument("meets behind 501", () -> x.meets(0, 0, 0, 501));
-        checks.badArgument("meets behind -1", () -> x.meets(0, 0, 0, -1));
-        checks.noSuch("no STATE goes ahead of too many STEPS", () -> x.meets(0, 2, 0, 501));
+        checks.is("never behind its last STEP", -1, () -> x.meets(0, 0, 1, 1));
+        Haltingale late = Tables.of("1RB 1LB  1LA 0LC  1RZ 1LD  1RD 0RA", "1RB 1LB  1LA 0LC  --- 1LD  1RD 0RA");
+        for (int i = 0; i <= 1; i++) {
+            int machine = i;
+            checks.is("just behind so many", 106, () -> late.meets(machine, 2, 0, 106));
+            checks.is("behind one less", -1, () -> late.meets(machine, 2, 0, 105));
+            checks.is("behind the most", 106, () -> late.meets(machine, 2, 0, 500));
+        }
     }
 
     private void likeness() {
@@ -206,10 +199,6 @@ public final class AskedTest {
         checks.is("EMPTY both", 1, () -> x.likeness(6, 10));
         checks.is("turned round with EMPTY CELLS", 2, () -> x.likeness(8, 9));
         checks.is("a CELL told, and EMPTY", 0, () -> x.likeness(8, 6));
-        checks.noSuch("likeness(11, 0)", () -> x.likeness(11, 0));
-        checks.noSuch("likeness(0, 11)", () -> x.likeness(0, 11));
-        checks.noSuch("likeness(-1, 0)", () -> x.likeness(-1, 0));
-        checks.noSuch("likeness(0, -1)", () -> x.likeness(0, -1));
     }
 
     private void champion() {
@@ -231,11 +220,19 @@ public final class AskedTest {
         checks.is("the smallest number of two last STEPS", 1, () -> x.champion(1));
         x.amend(2, 0, 0, 1, 1, 1);
         checks.is("not the one that is taken back", 3, () -> x.champion(0));
-        checks.badArgument("champion(2)", () -> x.champion(2));
-        checks.badArgument("champion(-1)", () -> x.champion(-1));
+        checks.is("the other one for the greatest last STEP", 1, () -> x.champion(1));
+        x.doubt(0);
+        checks.is("no one any more: the score", -1, () -> x.champion(0));
+        checks.is("no one any more: the last STEP", -1, () -> x.champion(1));
         Haltingale zero = Tables.of("0RZ ---  --- ---");
         zero.decide(0);
         checks.is("a score of 0 is one", 0, () -> zero.champion(0));
+        checks.is("a last STEP of 1 is one", 0, () -> zero.champion(1));
+        // The first one ends farther away, the second one has more ONES.
+        Haltingale apart = Tables.of("0RB ---  0RZ ---", BEAVER);
+        apart.decide(0);
+        apart.decide(1);
+        checks.is("ONES, not how far away", 1, () -> apart.champion(0));
     }
 
     private void tagged() {
@@ -257,14 +254,47 @@ public final class AskedTest {
         checks.is("111 -> nothing", 1, () -> x.tagged(1, 15, 6));
         checks.is("it stays so", 1, () -> x.tagged(1, 15, 200));
         checks.is("the longest row", 1, () -> x.tagged(1, 1023, 200));
-        checks.noSuch("tagged(2, 1, 0)", () -> x.tagged(2, 1, 0));
-        checks.noSuch("tagged(-1, 1, 0)", () -> x.tagged(-1, 1, 0));
-        checks.badArgument("the row 0", () -> x.tagged(0, 0, 0));
-        checks.badArgument("the row 1024", () -> x.tagged(0, 1024, 0));
-        checks.badArgument("the row -1", () -> x.tagged(0, -1, 0));
-        checks.badArgument("-1 times", () -> x.tagged(0, 1, -1));
-        checks.badArgument("201 times", () -> x.tagged(0, 1, 201));
-        checks.noSuch("no TAG goes ahead of no row", () -> x.tagged(2, 0, 0));
+        checks.is("the longest row, not once", 1023, () -> x.tagged(1, 1023, 0));
+        checks.is("the longest row, once", 0b1_111111110, () -> x.tagged(1, 1023, 1));
+        checks.is("the least row of nine SYMBOLS, once", 0b1_00000000, () -> x.tagged(1, 512, 1));
+    }
+
+    /** "A row of SYMBOLS with CUT or more SYMBOLS goes on": with one less it stays as it is. */
+    private void taggedByCut() {
+        Haltingale x = new Haltingale();
+        x.tag(1, 32, 63);
+        x.tag(2, 32, 63);
+        x.tag(3, 32, 63);
+        for (int tag = 0; tag <= 2; tag++) {
+            int cut = tag + 1;
+            int asked = tag;
+            for (int length = 0; length <= 4; length++) {
+                int zeros = 1 << length;
+                int ones = (2 << length) - 1;
+                int left = length - cut;
+                boolean goesOn = length >= cut;
+                checks.is("CUT " + cut + ", " + length + " times 0", goesOn ? 32 << left : zeros,
+                        () -> x.tagged(asked, zeros, 1));
+                checks.is("CUT " + cut + ", " + length + " times 1", goesOn ? (64 << left) - 1 : ones,
+                        () -> x.tagged(asked, ones, 1));
+            }
+        }
+        // Words without SYMBOLS: the row becomes shorter, and stays with less than CUT.
+        Haltingale y = new Haltingale();
+        y.tag(3, 1, 1);
+        checks.is("seven SYMBOLS, once", 0b1_1010, () -> y.tagged(0, 0b1_1011010, 1));
+        checks.is("seven SYMBOLS, twice", 0b1_0, () -> y.tagged(0, 0b1_1011010, 2));
+        checks.is("seven SYMBOLS, 200 times", 0b1_0, () -> y.tagged(0, 0b1_1011010, 200));
+    }
+
+    /** "how many times it should go on": a row of three SYMBOLS that turns round, up to 200 times. */
+    private void taggedSoOften() {
+        Haltingale x = new Haltingale();
+        x.tag(1, 2, 3);
+        int[] due = {0b1_100, 0b1_001, 0b1_010};
+        for (int times : new int[] {0, 1, 2, 3, 4, 198, 199, 200}) {
+            checks.is(times + " times", due[times % 3], () -> x.tagged(0, 0b1_100, times));
+        }
     }
 
     private void taggedTooLong() {
@@ -310,8 +340,6 @@ public final class AskedTest {
         checks.is("three are taken back", 3, () -> x.many(9));
         checks.is("they are OPEN", 5, () -> x.many(1));
         checks.is("one CELL less is EMPTY", 19, () -> x.many(10));
-        checks.badArgument("many(11)", () -> x.many(11));
-        checks.badArgument("many(-1)", () -> x.many(-1));
     }
 
     private void meanStop() {

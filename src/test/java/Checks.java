@@ -39,21 +39,6 @@ final class Checks {
         same(what, outcome(call), text(due));
     }
 
-    void noSuch(String what, Call call) {
-        same(what, outcome(call), "throws.IndexOutOfBoundsException");
-    }
-
-    void badArgument(String what, Call call) {
-        same(what, outcome(call), "throws.IllegalArgumentException");
-    }
-
-    /** Checks that a call throws the exception of that name and leaves the digest as it was. */
-    void refuses(Haltingale x, String exception, String what, Call call) {
-        long before = x.digest();
-        same(what, outcome(call), "throws." + exception);
-        is(what + ": digest() then", before, () -> x.digest());
-    }
-
     void end() {
         System.out.println(name + ": " + done + " checks, " + wrong + " wrong");
         if (wrong != 0 || done == 0) {

@@ -1,23 +1,30 @@
 /** Promises 1 to 6: a new object, machine, tell, amend, child, tag. */
 public final class MachinesTest {
-    private static final String INDEX = "IndexOutOfBoundsException";
-    private static final String ARGUMENT = "IllegalArgumentException";
-    private static final String STATE = "IllegalStateException";
-
     private final Checks checks = new Checks("MachinesTest");
 
     public static void main(String[] args) {
         MachinesTest test = new MachinesTest();
         test.newObject();
+        test.newObjectsAreApart();
         test.machine();
         test.tell();
+        test.tellToTheLastCell();
         test.tellTakesBack();
         test.amend();
         test.childFillsTheCell();
-        test.childWays();
-        test.childRefuses();
+        test.childInTheLastWay();
+        test.childOfTheFirstAndOfTheLastStep();
+        test.childIsTheLastMachine();
         test.tag();
         test.checks.end();
+    }
+
+    /** Checks what a CELL WRITES, its MOVE (0 to the left) and its NEXT. */
+    private void holds(String what, Haltingale x, int machine, int state, int symbol, int... due) {
+        for (int i = 0; i <= 2; i++) {
+            int part = i;
+            checks.is(what + ": cell " + i, due[i], () -> x.cell(machine, state, symbol, part));
+        }
     }
 
     private void newObject() {
@@ -28,29 +35,40 @@ public final class MachinesTest {
         }
         checks.is("new: champion(0)", -1, () -> x.champion(0));
         checks.is("new: champion(1)", -1, () -> x.champion(1));
-        checks.is("new: meanStop()", 0, () -> x.meanStop());
-        checks.noSuch("new: ofMachine(0, 0)", () -> x.ofMachine(0, 0));
-        checks.noSuch("new: tagged(0, 1, 0)", () -> x.tagged(0, 1, 0));
-        Haltingale other = new Haltingale();
-        other.machine(2);
-        checks.is("an object has nothing of another one", 0, () -> x.many(0));
+        checks.is("new: meanStop()", 0.0, () -> x.meanStop());
+        for (int kind = 0; kind <= 3; kind++) {
+            int doubted = kind;
+            checks.is("new: doubt(" + kind + ")", 0, () -> x.doubt(doubted));
+        }
+    }
+
+    private void newObjectsAreApart() {
+        Haltingale x = new Haltingale();
+        Haltingale other = Tables.of("1RZ ---  --- ---");
+        other.tag(1, 1, 1);
+        other.decide(0);
+        other.prove(0 + other.machine(2), 0, 1, 0);
+        for (int what = 0; what <= 10; what++) {
+            int asked = what;
+            checks.is("an object has nothing of another one: many(" + what + ")", 0, () -> x.many(asked));
+        }
     }
 
     private void machine() {
         Haltingale x = new Haltingale();
-        for (int states : new int[] {1, 5, 0, -1, Integer.MIN_VALUE, Integer.MAX_VALUE}) {
-            checks.refuses(x, ARGUMENT, "machine(" + states + ")", () -> x.machine(states));
-        }
         for (int i = 0; i < 12; i++) {
             int number = i;
-            checks.is("machine() number " + i, i, () -> x.machine(2 + number % 3));
-            checks.is("its STATES", 2 + i % 3, () -> x.ofMachine(number, 0));
-            checks.is("its CELLS that are EMPTY", 2 * (2 + i % 3), () -> x.ofMachine(number, 1));
+            int states = 2 + i % 3;
+            checks.is("machine() number " + i, i, () -> x.machine(states));
+            checks.is("its STATES", states, () -> x.ofMachine(number, 0));
+            checks.is("its CELLS that are EMPTY", 2 * states, () -> x.ofMachine(number, 1));
             checks.is("it is OPEN", -1, () -> x.ofMachine(number, 2));
+            for (int cell = 0; cell < 2 * states; cell++) {
+                holds("its CELL " + cell, x, i, cell / 2, cell % 2, -1, -1, -1);
+            }
         }
-        checks.refuses(x, STATE, "machine(2) of 12", () -> x.machine(2));
-        checks.refuses(x, ARGUMENT, "machine(5) of 12", () -> x.machine(5));
         checks.is("many(0)", 12, () -> x.many(0));
+        checks.is("many(10)", 4 * (4 + 6 + 8), () -> x.many(10));
     }
 
     private void tell() {
@@ -59,31 +77,29 @@ public final class MachinesTest {
         x.machine(3);
         checks.is("tell", 3, () -> x.tell(0, 0, 0, 1, -1, 2));
         checks.is("tell", 2, () -> x.tell(0, 1, 1, 0, 1, 0));
-        checks.is("what it WRITES", 1, () -> x.cell(0, 0, 0, 0));
-        checks.is("its MOVE", 0, () -> x.cell(0, 0, 0, 1));
-        checks.is("its NEXT", 2, () -> x.cell(0, 0, 0, 2));
-        checks.is("what the other WRITES", 0, () -> x.cell(0, 1, 1, 0));
-        checks.is("the other's MOVE", 1, () -> x.cell(0, 1, 1, 1));
-        checks.is("a CELL between is EMPTY", -1, () -> x.cell(0, 0, 1, 0));
+        holds("the first one", x, 0, 0, 0, 1, 0, 2);
+        holds("the last one", x, 0, 1, 1, 0, 1, 0);
+        holds("a CELL between", x, 0, 0, 1, -1, -1, -1);
         checks.is("tell of another machine", 5, () -> x.tell(1, 2, 1, 1, 1, 3));
         checks.is("the first machine has as many", 2, () -> x.ofMachine(0, 1));
+    }
 
-        checks.refuses(x, INDEX, "tell of machine 2", () -> x.tell(2, 0, 0, 1, 1, 0));
-        checks.refuses(x, INDEX, "tell of machine -1", () -> x.tell(-1, 0, 0, 1, 1, 0));
-        checks.refuses(x, INDEX, "tell of STATE 2 of 2", () -> x.tell(0, 2, 0, 1, 1, 0));
-        checks.refuses(x, INDEX, "tell of STATE -1", () -> x.tell(0, -1, 0, 1, 1, 0));
-        checks.refuses(x, INDEX, "tell of SYMBOL 2", () -> x.tell(0, 0, 2, 1, 1, 0));
-        checks.refuses(x, INDEX, "tell of SYMBOL -1", () -> x.tell(0, 0, -1, 1, 1, 0));
-        checks.refuses(x, INDEX, "tell of STATE and SYMBOL at the ends", () -> x.tell(0, 1 << 30, 1 << 31, 1, 1, 0));
-        checks.refuses(x, ARGUMENT, "tell that WRITES 2", () -> x.tell(0, 0, 1, 2, 1, 0));
-        checks.refuses(x, ARGUMENT, "tell that WRITES -1", () -> x.tell(0, 0, 1, -1, 1, 0));
-        checks.refuses(x, ARGUMENT, "tell with a MOVE of 0", () -> x.tell(0, 0, 1, 1, 0, 0));
-        checks.refuses(x, ARGUMENT, "tell with a MOVE of 2", () -> x.tell(0, 0, 1, 1, 2, 0));
-        checks.refuses(x, ARGUMENT, "tell with a NEXT of 3 of 2", () -> x.tell(0, 0, 1, 1, 1, 3));
-        checks.refuses(x, ARGUMENT, "tell with a NEXT of -1", () -> x.tell(0, 0, 1, 1, 1, -1));
-        checks.refuses(x, STATE, "tell of a CELL that is told", () -> x.tell(0, 0, 0, 1, -1, 2));
-        checks.refuses(x, INDEX, "no STATE goes ahead of a wrong NEXT", () -> x.tell(0, 2, 0, 5, 5, 5));
-        checks.refuses(x, ARGUMENT, "a wrong NEXT goes ahead of not EMPTY", () -> x.tell(0, 0, 0, 1, 1, 3));
+    /** "how many CELLS of it are EMPTY then": down to 0, with each filling that there is. */
+    private void tellToTheLastCell() {
+        for (int states = 2; states <= 4; states++) {
+            Haltingale x = new Haltingale();
+            x.machine(states);
+            for (int i = 0; i < 2 * states; i++) {
+                int cell = i;
+                int write = i % 2;
+                int move = i % 4 < 2 ? 1 : -1;
+                int next = i % (states + 1);
+                checks.is("the CELL " + i + " of " + 2 * states, 2 * states - 1 - i,
+                        () -> x.tell(0, cell / 2, cell % 2, write, move, next));
+                holds("the CELL " + i, x, 0, i / 2, i % 2, write, move == 1 ? 1 : 0, next);
+            }
+            checks.is("many(10) of none", 0, () -> x.many(10));
+        }
     }
 
     private void tellTakesBack() {
@@ -101,35 +117,20 @@ public final class MachinesTest {
     private void amend() {
         Haltingale x = Tables.of("1RZ 1LB  --- ---", "1RZ ---  --- ---");
         checks.is("amend of an OPEN machine", false, () -> x.amend(0, 0, 1, 0, 1, 2));
-        checks.is("what it WRITES", 0, () -> x.cell(0, 0, 1, 0));
-        checks.is("its MOVE", 1, () -> x.cell(0, 0, 1, 1));
-        checks.is("its NEXT", 2, () -> x.cell(0, 0, 1, 2));
+        holds("it", x, 0, 0, 1, 0, 1, 2);
         checks.is("its CELLS that are EMPTY", 2, () -> x.ofMachine(0, 1));
         checks.is("many(9)", 0, () -> x.many(9));
         x.decide(0);
         x.decide(1);
         checks.is("amend of a DECIDED machine", true, () -> x.amend(0, 0, 0, 1, -1, 0));
+        holds("it", x, 0, 0, 0, 1, 0, 0);
         checks.is("it is OPEN then", -1, () -> x.ofMachine(0, 2));
+        checks.is("amend of it again", false, () -> x.amend(0, 0, 0, 1, 1, 2));
         checks.is("the other one is DECIDED", 0, () -> x.ofMachine(1, 2));
         checks.is("many(9)", 1, () -> x.many(9));
         checks.is("amend to the same, DECIDED", true, () -> x.amend(1, 0, 0, 1, 1, 2));
         checks.is("it is OPEN, too", -1, () -> x.ofMachine(1, 2));
-        x.decide(1);
-
-        checks.refuses(x, INDEX, "amend of machine 2", () -> x.amend(2, 0, 0, 1, 1, 0));
-        checks.refuses(x, INDEX, "amend of machine -1", () -> x.amend(-1, 0, 0, 1, 1, 0));
-        checks.refuses(x, INDEX, "amend of STATE 2 of 2", () -> x.amend(1, 2, 0, 1, 1, 0));
-        checks.refuses(x, INDEX, "amend of STATE -1", () -> x.amend(1, -1, 0, 1, 1, 0));
-        checks.refuses(x, INDEX, "amend of SYMBOL 2", () -> x.amend(1, 0, 2, 1, 1, 0));
-        checks.refuses(x, INDEX, "amend of SYMBOL -1", () -> x.amend(1, 0, -1, 1, 1, 0));
-        checks.refuses(x, ARGUMENT, "amend that WRITES 2", () -> x.amend(1, 0, 0, 2, 1, 0));
-        checks.refuses(x, ARGUMENT, "amend with a MOVE of 0", () -> x.amend(1, 0, 0, 1, 0, 0));
-        checks.refuses(x, ARGUMENT, "amend with a NEXT of 3 of 2", () -> x.amend(1, 0, 0, 1, 1, 3));
-        checks.refuses(x, ARGUMENT, "amend with a NEXT of -1", () -> x.amend(1, 0, 0, 1, 1, -1));
-        checks.refuses(x, STATE, "amend of an EMPTY CELL", () -> x.amend(1, 1, 1, 1, 1, 0));
-        checks.refuses(x, INDEX, "no SYMBOL goes ahead of a wrong MOVE", () -> x.amend(1, 0, 2, 1, 7, 0));
-        checks.refuses(x, ARGUMENT, "a wrong MOVE goes ahead of EMPTY", () -> x.amend(1, 1, 1, 1, 7, 0));
-        checks.is("what throws takes nothing back", 0, () -> x.ofMachine(1, 2));
+        checks.is("many(9)", 2, () -> x.many(9));
     }
 
     private void childFillsTheCell() {
@@ -138,86 +139,83 @@ public final class MachinesTest {
             {1, 1, 4},
             {1, 1, 0}, {0, 1, 0}, {1, 0, 0}, {0, 0, 0},
             {1, 1, 1}, {0, 1, 1}, {1, 0, 1}, {0, 0, 1},
-            {1, 1, 2}, {0, 1, 2}};
-        Haltingale x = Tables.of("1RB ---  --- 0LZ  --- ---  --- ---");
+            {1, 1, 2}, {0, 1, 2}, {1, 0, 2}, {0, 0, 2}};
         for (int way = 0; way < due.length; way++) {
+            Haltingale x = Tables.of("1RB ---  --- 0LZ  --- ---  --- ---");
             int asked = way;
-            int number = way + 1;
-            checks.is("child(0, " + way + ")", number, () -> x.child(0, asked));
-            for (int what = 0; what <= 2; what++) {
-                int part = what;
-                checks.is("the CELL of the way " + way + ", " + what, due[way][what], () -> x.cell(number, 1, 0, part));
-            }
-            checks.is("the rest is the same: EMPTY", 5, () -> x.ofMachine(number, 1));
-            checks.is("the rest is the same: MOVE to the right", 1, () -> x.cell(number, 0, 0, 1));
-            checks.is("the rest is the same: MOVE to the left", 0, () -> x.cell(number, 1, 1, 1));
-            checks.is("it does a STEP more, and where to", due[way][1] == 1 ? 2 : 0, () -> x.at(number, 2, 2));
-            checks.is("the rest is the same: NEXT", 4, () -> x.cell(number, 1, 1, 2));
-            checks.is("a CHILD is OPEN", -1, () -> x.ofMachine(number, 2));
+            checks.is("child(0, " + way + ")", 1, () -> x.child(0, asked));
+            holds("the CELL of the way " + way, x, 1, 1, 0, due[way]);
+            holds("the rest is the same: STATE 0", x, 1, 0, 0, 1, 1, 1);
+            holds("the rest is the same: STATE 1", x, 1, 1, 1, 0, 0, 4);
+            checks.is("the rest is the same: STATES", 4, () -> x.ofMachine(1, 0));
+            checks.is("the rest is the same: EMPTY", 5, () -> x.ofMachine(1, 1));
+            checks.is("it does a STEP more, and where to", due[way][1] == 1 ? 2 : 0, () -> x.at(1, 2, 2));
+            checks.is("a CHILD is OPEN", -1, () -> x.ofMachine(1, 2));
+            holds("the parent's CELL", x, 0, 1, 0, -1, -1, -1);
+            checks.is("the parent's CELLS that are EMPTY", 6, () -> x.ofMachine(0, 1));
+            x.amend(1, 0, 0, 0, -1, 3);
+            holds("a CHILD's table is its own", x, 0, 0, 0, 1, 1, 1);
         }
-        checks.is("the parent's CELL is EMPTY", -1, () -> x.cell(0, 1, 0, 0));
-        checks.is("many(0)", 12, () -> x.many(0));
-
-        Haltingale y = Tables.of("1RB ---  --- 0LZ  --- ---  --- ---");
-        y.child(0, 11);
-        checks.is("the way 11 WRITES", 1, () -> y.cell(1, 1, 0, 0));
-        checks.is("the way 11 MOVES", 0, () -> y.cell(1, 1, 0, 1));
-        y.child(0, 12);
-        checks.is("the way 12 WRITES", 0, () -> y.cell(2, 1, 0, 0));
-        checks.is("the way 12 MOVES", 0, () -> y.cell(2, 1, 0, 1));
-        checks.is("the way 12 goes on in", 2, () -> y.cell(2, 1, 0, 2));
-        y.amend(1, 0, 0, 0, -1, 3);
-        checks.is("a CHILD's table is its own", 1, () -> y.cell(0, 0, 0, 0));
     }
 
-    private void childWays() {
-        Haltingale none = Tables.of("--- 0RZ  --- ---  --- ---");
-        checks.is("no NEXT of a STATE: STATES 0 and 1", 9, () -> none.ofMachine(0, 5));
-        checks.badArgument("child(0, 9)", () -> none.child(0, 9));
-        checks.is("child(0, 8)", 1, () -> none.child(0, 8));
-        Haltingale most = Tables.of("--- 0RC  --- ---  --- ---");
-        checks.is("the greatest STATE is a NEXT: no one more", 13, () -> most.ofMachine(0, 5));
-        checks.badArgument("child(0, 13)", () -> most.child(0, 13));
-        checks.is("child(0, 12)", 1, () -> most.child(0, 12));
-        Haltingale far = Tables.of("--- ---  --- ---  --- 0RC  --- ---");
-        checks.is("a NEXT of a CELL that is never met counts", 17, () -> far.ofMachine(0, 5));
+    private void lastWay(String table, int way, int next) {
+        Haltingale x = Tables.of(table);
+        x.child(0, way);
+        holds("the way " + way + " of " + table, x, 1, 0, 0, 0, 0, next);
+        x.child(0, 0);
+        holds("the way 0 of " + table, x, 2, 0, 0, 1, 1, x.ofMachine(0, 0));
     }
 
-    private void childRefuses() {
-        Haltingale x = Tables.of("1RB ---  --- ---", "1RZ ---  --- ---", "1RA ---  --- ---");
-        checks.refuses(x, INDEX, "child(3, 0)", () -> x.child(3, 0));
-        checks.refuses(x, INDEX, "child(-1, 0)", () -> x.child(-1, 0));
-        checks.refuses(x, INDEX, "no machine goes ahead of no way", () -> x.child(3, -1));
-        checks.refuses(x, ARGUMENT, "child(0, -1)", () -> x.child(0, -1));
-        checks.refuses(x, ARGUMENT, "child(0, 9)", () -> x.child(0, 9));
-        checks.refuses(x, ARGUMENT, "child(0, MAX)", () -> x.child(0, Integer.MAX_VALUE));
-        checks.refuses(x, ARGUMENT, "child of one that STOPS", () -> x.child(1, 0));
-        checks.refuses(x, ARGUMENT, "child of one that goes on", () -> x.child(2, 0));
-        for (int i = 3; i < 12; i++) {
-            x.machine(2);
+    /** The last way goes on in the greatest STATE that is a NEXT, and 1 more, if there is such a one. */
+    private void childInTheLastWay() {
+        lastWay("--- ---  --- ---", 8, 1);
+        lastWay("--- 0RZ  --- ---", 8, 1);
+        lastWay("--- 0RB  --- ---", 8, 1);
+        lastWay("--- ---  --- ---  --- ---", 8, 1);
+        lastWay("--- 0RZ  --- ---  --- ---", 8, 1);
+        lastWay("--- 0RB  --- ---  --- ---", 12, 2);
+        lastWay("--- 0RC  --- ---  --- ---", 12, 2);
+        lastWay("--- 0RC  --- ---  --- ---  --- ---", 16, 3);
+        lastWay("--- 0RD  --- ---  --- ---  --- ---", 16, 3);
+        // A CELL counts that is never met, be it the last one.
+        lastWay("--- ---  --- ---  --- ---  --- 0LC", 16, 3);
+    }
+
+    /** "The CELL that a machine meets, as it HANGS behind at most 500 STEPS": behind none, and behind 106 of them. */
+    private void childOfTheFirstAndOfTheLastStep() {
+        Haltingale x = Tables.of("--- ---  --- ---", "1RB 1LB  1LA 0LC  --- 1LD  1RD 0RA");
+        checks.is("it does no STEP", 0, () -> x.at(0, 500, 0));
+        checks.is("child(0, 0)", 2, () -> x.child(0, 0));
+        checks.is("the CHILD STOPS with its STEP 1", 1, () -> x.ofMachine(2, 7));
+        checks.is("it does 106 STEPS", 106, () -> x.at(1, 500, 0));
+        checks.is("in how many ways it can go on", 17, () -> x.ofMachine(1, 5));
+        checks.is("child(1, 0)", 3, () -> x.child(1, 0));
+        holds("the CELL that it met", x, 3, 2, 0, 1, 1, 4);
+        checks.is("the CHILD STOPS with its STEP 107", 107, () -> x.ofMachine(3, 7));
+    }
+
+    /** "A CHILD, as the last machine", of one ahead of it, of a CHILD, and up to the number 11. */
+    private void childIsTheLastMachine() {
+        Haltingale x = Tables.of("--- ---  --- ---  --- ---", "1RA ---  --- ---");
+        x.decide(1);
+        for (int i = 2; i < 12; i++) {
+            int number = i;
+            checks.is("a CHILD is the number " + i, i, () -> x.child(number % 2 == 0 ? 0 : number - 1, 5));
+            checks.is("many(0)", i + 1, () -> x.many(0));
         }
-        checks.refuses(x, STATE, "child(0, 8) of 12", () -> x.child(0, 8));
-        checks.refuses(x, ARGUMENT, "no way goes ahead of 12", () -> x.child(0, 9));
-        checks.refuses(x, ARGUMENT, "not HANGING goes ahead of 12", () -> x.child(1, 0));
-        checks.refuses(x, INDEX, "no machine goes ahead of 12", () -> x.child(12, 0));
+        holds("a CHILD of the first one", x, 10, 0, 0, 1, 1, 1);
+        holds("a CHILD of that", x, 11, 1, 0, 1, 1, 1);
+        checks.is("the one that was DECIDED is", 1, () -> x.ofMachine(1, 2));
+        checks.is("many(9)", 0, () -> x.many(9));
     }
 
     private void tag() {
         Haltingale x = new Haltingale();
-        for (int cut : new int[] {0, 4, -1, Integer.MAX_VALUE}) {
-            checks.refuses(x, ARGUMENT, "tag of the CUT " + cut, () -> x.tag(cut, 1, 1));
-        }
-        for (int word : new int[] {0, 64, -1, Integer.MIN_VALUE}) {
-            checks.refuses(x, ARGUMENT, "tag with the word " + word + " of 0", () -> x.tag(1, word, 1));
-            checks.refuses(x, ARGUMENT, "tag with the word " + word + " of 1", () -> x.tag(1, 1, word));
-        }
         checks.is("tag", 0, () -> x.tag(1, 1, 63));
         checks.is("tag", 1, () -> x.tag(3, 63, 1));
         checks.is("tag", 2, () -> x.tag(2, 2, 3));
-        checks.is("tag", 3, () -> x.tag(2, 2, 3));
+        checks.is("tag, the same again", 3, () -> x.tag(2, 2, 3));
         checks.is("many(6)", 4, () -> x.many(6));
-        checks.refuses(x, STATE, "tag of 4", () -> x.tag(1, 1, 1));
-        checks.refuses(x, ARGUMENT, "a wrong CUT goes ahead of 4", () -> x.tag(4, 1, 1));
-        checks.refuses(x, ARGUMENT, "a wrong word goes ahead of 4", () -> x.tag(1, 1, 64));
+        checks.is("many(0)", 0, () -> x.many(0));
     }
 }

@@ -1,14 +1,13 @@
+import java.math.BigInteger;
+
 /** Promises 21 to 24: cycleIn, backIn, gramIn, digest. */
 public final class ProvableTest {
-    private static final String INDEX = "IndexOutOfBoundsException";
-    private static final String ARGUMENT = "IllegalArgumentException";
-
     private final Checks checks = new Checks("ProvableTest");
 
     public static void main(String[] args) {
         ProvableTest test = new ProvableTest();
         test.cycleIn();
-        test.cycleInRefuses();
+        test.cycleInWithin();
         test.backIn();
         test.gramIn();
         test.nothingIsChanged();
@@ -36,18 +35,27 @@ public final class ProvableTest {
         cycles("1RB 1LB  1LA 1RZ", 40, -1);
         cycles("1RB ---  --- ---", 40, -1);
         cycles("--- ---  --- ---", 1, -1);
-        // Of 0 and 4, 1 and 3, 2 and 2 all of the same sum the first that is taken has the smallest a.
+        // 1 and 4, 2 and 2, 3 and 2 would be taken, too.
+        cycles("1RB ---  1RC ---  1RB ---", 2, -1);
+        cycles("1RB ---  1RC ---  1RB ---", 3, 202);
         cycles("1RB ---  1RC ---  1RB ---", 40, 202);
     }
 
-    private void cycleInRefuses() {
-        Haltingale x = Tables.of("1RA ---  --- ---");
-        for (int bound : new int[] {0, 41, -1, Integer.MAX_VALUE, Integer.MIN_VALUE}) {
-            checks.refuses(x, ARGUMENT, "cycleIn(0, " + bound + ")", () -> x.cycleIn(0, bound));
-        }
-        checks.refuses(x, INDEX, "cycleIn(1, 1)", () -> x.cycleIn(1, 1));
-        checks.refuses(x, INDEX, "cycleIn(-1, 1)", () -> x.cycleIn(-1, 1));
-        checks.refuses(x, INDEX, "no machine goes ahead of no bound", () -> x.cycleIn(1, 0));
+    /** "with the smallest sum of both (at most bound)": with a bound of 40 a sum of 40, and not of 41. */
+    private void cycleInWithin() {
+        String forty = "1RC 0LC  1LA 0RD  1LD 1RD  1LA 1RA";
+        cycles(forty, 39, -1);
+        cycles(forty, 40, 2627);
+        String more = "0RD 1LC  0LA 1RA  0LA 0RB  1LA 1RD";
+        cycles(more, 40, -1);
+        checks.is(more + " taken by 14, 27", true, () -> Tables.of(more).prove(0, 1, 14, 27));
+        // With a, or b, as great as can be.
+        cycles("1LC 0LC  1LD 0RC  1RB 0LD  0RD 1LA", 29, -1);
+        cycles("1LC 0LC  1LD 0RC  1RB 0LD  0RD 1LA", 30, 29 * 200 + 1);
+        cycles("1RB 1LC  1LD 0RC  1LC 0LA  --- 1RB", 39, -1);
+        cycles("1RB 1LC  1LD 0RC  1LC 0LA  --- 1RB", 40, 39 * 200 + 1);
+        cycles("1RB 0LA  0RC 1RC  1RD 1LA  0LC 1RA", 39, -1);
+        cycles("1RB 0LA  0RC 1RC  1RD 1LA  0LC 1RA", 40, 40);
     }
 
     private void backs(String table, int due) {
@@ -61,6 +69,8 @@ public final class ProvableTest {
         backs("1LC 1RA  0LD 1LA  1RA 0RB  0RZ 1RC", 4);
         backs("1LB 0LZ  0LC 1RA  1RB 0RA", 5);
         backs("1LA 1RB  1RC 0RC  0RZ 1LA", 6);
+        // There is no ROW at the depth 7 for the first time.
+        backs("0LB 0RC  1LB 1RA  1RZ 0LA", -1);
         backs("0RB 1LD  0LA 0LA  0LA 0LA  --- ---", 3);
         backs("1RB 1LZ  1LC 1RB  1LA 1LC", -1);
         backs("1RB 1LB  1LA 1RZ", -1);
@@ -68,9 +78,6 @@ public final class ProvableTest {
         backs("1RZ 1LB  1RB 1RB", -1);
         backs("--- 1LB  1RB 1RB", -1);
         backs("--- ---  --- ---", -1);
-        Haltingale x = Tables.of("1RA ---  --- ---");
-        checks.refuses(x, INDEX, "backIn(1)", () -> x.backIn(1));
-        checks.refuses(x, INDEX, "backIn(-1)", () -> x.backIn(-1));
     }
 
     private void grams(String table, int due) {
@@ -84,12 +91,11 @@ public final class ProvableTest {
         grams("1LB 1RZ  1RC 1LB  1RA 1RC", 2);
         grams("1RC 0LB  1LA 0LZ  1LA 0RA", 3);
         grams("1LC 0RB  1RA 0RZ  1RA 0LA", 3);
+        // By rows of 4 SYMBOLS, or of more, or by none at all.
+        grams("1RB ---  1LC 0RB  1LA 0LB", -1);
         grams("1RB 1LB  --- 0LC  0LB 1LA", -1);
         grams("1RB 1LB  1LA 1RZ", -1);
         grams("--- ---  --- ---", -1);
-        Haltingale x = Tables.of("1RA ---  --- ---");
-        checks.refuses(x, INDEX, "gramIn(1)", () -> x.gramIn(1));
-        checks.refuses(x, INDEX, "gramIn(-1)", () -> x.gramIn(-1));
     }
 
     private void nothingIsChanged() {
@@ -107,15 +113,21 @@ public final class ProvableTest {
         checks.is("digest() then, too", decided, () -> x.digest());
     }
 
-    private void digestOfNothing() {
-        long d = 58237;
-        for (int what = 0; what <= 10; what++) {
-            d = d * 31;
+    /** "d becomes d * 31 + v, which wraps around as a 64-bit integer". */
+    private static long wrapped(int... numbers) {
+        BigInteger d = BigInteger.valueOf(58237);
+        for (int v : numbers) {
+            d = d.multiply(BigInteger.valueOf(31)).add(BigInteger.valueOf(v));
         }
-        d = (d * 31 - 1) * 31 - 1;
-        long due = d;
+        BigInteger rest = d.mod(BigInteger.TWO.pow(64));
+        return rest.testBit(63) ? rest.subtract(BigInteger.TWO.pow(64)).longValueExact() : rest.longValueExact();
+    }
+
+    /** It has wrapped around by then; and the champions are NONE. */
+    private void digestOfNothing() {
+        long due = wrapped(0, 0, 0, 0, 0, 0, 0, 0, 0, 0, 0, -1, -1);
         checks.is("digest of a new object", due, () -> new Haltingale().digest());
-        checks.is("digest of a new object again", due, () -> new Haltingale().digest());
+        checks.is("what that is", 483314258739949443L, () -> due);
     }
 
     private void digestNumberByNumber() {
@@ -136,12 +148,7 @@ public final class ProvableTest {
             // 010 0011 11011 01110 110011 001110 1110011 1001110 0111010 11010011, and a 1 ahead of that.
             0b1_11010011,
             0, 0};
-        long d = 58237;
-        for (int v : numbers) {
-            d = d * 31 + v;
-        }
-        long due = d;
-        checks.is("digest", due, () -> x.digest());
+        checks.is("digest", wrapped(numbers), () -> x.digest());
     }
 
     /** The same from the answers of the other methods, of an object for which most of these are not alike. */
